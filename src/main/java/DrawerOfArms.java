@@ -657,7 +657,7 @@ public final class DrawerOfArms {
         static final int OLD = 5;
         static final int GLUED = 6;
         static final int IN_DRAWER = 99;
-        /** By kinds, the kind that each is under. */
+        /** By kinds, the kind that each is under: one of a lower number, so that going up has an end. */
         static final int[] UNDER = {NONE, PLAIN, PLAIN, STAINED, PLAIN, CAST, ROBBED};
 
         int kind;

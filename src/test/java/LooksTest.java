@@ -18,6 +18,8 @@ public final class LooksTest {
         promise30Dearest();
         promise30Swap();
         promise30SwapBounds();
+        promise30SwapByOne();
+        promise30SwapLeavesMostLike();
         Due.end("LooksTest");
     }
 
@@ -88,6 +90,9 @@ public final class LooksTest {
         Due.is("may, left", x.may(0, 0), 0b110101);
         Due.is("may, right", x.may(0, 1), 0b010010);
         Due.is("best", x.best(0, 0), 5);
+        x.dye(0, 0, 5);
+        Due.is("the first is as good", x.best(0, 0), 0);
+        x.dye(0, 0, 1);
         x.mend(5, 1, 0);
         Due.is("only in the drawer", x.may(0, 0), 0b010101);
         Due.is("of several the first", x.best(0, 0), 2);
@@ -400,5 +405,44 @@ public final class LooksTest {
         x.dye(3, 1, 0);
         x.dye(2, 0, 3);
         Due.is("0 and 3 then", x.dearest(1), 3);
+    }
+
+    private static void promise30SwapByOne() {
+        DrawerOfArms x = new DrawerOfArms();
+        for (int d = 0; d < 5; d++) {
+            x.doll(5, 5, d == 4 ? 1 : 0, d == 4 ? 0 : 1, 1, 0, 0);
+        }
+        for (int i = 0; i < 8; i++) {
+            x.arm(0, 0, 1, 5, 5, i == 5 ? 1 : 0);
+        }
+        x.mend(5, 3, 1);
+        x.mend(6, 4, 1);
+        // 1 (as new, wear 1) and 1 (wear 0 for 1) become 0 and 0
+        Due.is("of higher numbers", x.dearest(1), 56);
+        x.tell(3, 0, 2);
+        Due.is("by one alone", x.dearest(1), 56);
+        x.tell(4, 0, 2);
+        Due.is("no less", x.dearest(1), -1);
+    }
+
+    /** All that are on count together: not the two that would be least unlike, but the change that takes most off. */
+    private static void promise30SwapLeavesMostLike() {
+        DrawerOfArms x = new DrawerOfArms();
+        x.doll(5, 0, 0, 0, 1, 0, 0);
+        x.doll(5, 1, 0, 0, 1, 0, 0);
+        x.doll(5, 0, 0, 0, 1, 0, 0);
+        x.doll(5, 9, 9, 0, 1, 0, 0);
+        x.arm(0, 0, 0, 5, 1, 0);
+        x.arm(0, 0, 0, 5, 0, 0);
+        x.arm(0, 0, 1, 5, 9, 5);
+        x.arm(0, 0, 1, 5, 0, 4);
+        x.mend(0, 0, 0);
+        x.mend(1, 1, 0);
+        x.mend(2, 2, 1);
+        x.mend(3, 3, 1);
+        // left: 1 and 1 become 0 and 0; right: 14 and 14 become 4 and 4
+        Due.is("the change that takes most off", x.dearest(1), 23);
+        x.off(3);
+        Due.is("the other one then", x.dearest(1), 1);
     }
 }

@@ -10,6 +10,9 @@ public final class RandomRunsTest {
     /** How often each call answered 0 or more, and below 0: a run that never gets anywhere shows nothing. */
     private static final Map<String, Integer> TALLY = new TreeMap<>();
 
+    private static final String[] OFTEN = {"a swap", "act", "arm", "behind", "best", "cast", "copy", "dearest", "done", "feast",
+        "given", "judge", "looks", "mend", "off", "on", "queue", "restore", "says", "shop", "shop below 0", "tea", "whole"};
+
     private final Random random;
     private final DrawerOfArms x = new DrawerOfArms();
     private final SlowShop y = new SlowShop();
@@ -295,7 +298,9 @@ public final class RandomRunsTest {
         for (int run = 0; run < RUNS && Due.wrongs() == 0; run++) {
             new RandomRunsTest(run).goOn();
         }
-        System.out.println(TALLY);
+        for (String answer : OFTEN) {
+            Due.holds("many of " + answer + ": " + TALLY.getOrDefault(answer, 0), TALLY.getOrDefault(answer, 0) >= 100);
+        }
         Due.end("RandomRunsTest");
     }
 }

@@ -35,8 +35,10 @@ public final class ShelvesTest {
         DrawerOfArms x = new DrawerOfArms();
         Due.is("row", x.row(0, 0, 160), 1);
         Due.is("last element", x.set(0, 159, 7), 1);
+        Due.is("first element", x.set(0, 0, 7), 1);
         Due.is("row made anew", x.row(0, 0, 160), 1);
         Due.is("it is 0 at first", x.element(0, 159), 0);
+        Due.is("it is 0 at first", x.element(0, 0), 0);
         Due.is("shorter", x.row(0, 3, 2), 1);
         Due.is("no third", x.set(0, 2, 1), -5);
         Due.is("empty row", x.row(7, 3, 0), 1);
@@ -140,6 +142,8 @@ public final class ShelvesTest {
         x.arm(0, 0, 0, 0, 0, 0);
         x.row(0, 3, 2);
         x.set(0, 1, Long.MAX_VALUE);
+        x.row(1, 3, 2);
+        x.set(1, 0, 5);
         x.show(1, 0);
         Due.is("whole longs", x.element(0, 1), Long.MAX_VALUE);
         Due.is("none behind", x.element(0, 2), 0);

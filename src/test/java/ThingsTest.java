@@ -109,6 +109,11 @@ public final class ThingsTest {
                 Due.is("kind " + kind + ", what " + what, x.armOf(kind, what), due[what]);
             }
         }
+        DrawerOfArms y = new DrawerOfArms();
+        y.arm(3, 0, 0, 0, 0, 9);
+        Due.is("robbed is 9 at most", y.armOf(0, 7), 9);
+        y.dye(0, 1, 8);
+        Due.is("robbed, 8", y.armOf(0, 7), 9);
         x.arm(6, 2, 0, 0, 6, 9);
         Due.is("stained below 9", x.armOf(7, 6), 8);
         Due.is("glued is 9 at most", x.armOf(7, 7), 9);
@@ -283,11 +288,19 @@ public final class ThingsTest {
         x.arm(0, 0, 0, 4, 0, 0);
         x.show(0, 0);
         x.show(1, 1);
+        x.show(7, 1);
         x.row(2, 3, 4);
         x.set(2, 3, 77);
         Due.is("restore", x.restore(), 1);
         Due.is("of that number", x.holds(0), 0);
         Due.is("there is none of that", x.holds(1), -1);
+        Due.is("nor in the last shelf", x.holds(7), -1);
+        DrawerOfArms y = new DrawerOfArms();
+        y.image();
+        y.arm(0, 0, 0, 4, 0, 0);
+        y.show(0, 0);
+        Due.is("back to no arms", y.restore(), 0);
+        Due.is("nor in the first shelf", y.holds(0), -1);
         Due.is("nothing is said there", x.says(1, 0), -3);
         Due.is("rows stay", x.element(2, 3), 77);
         x.arm(0, 0, 0, 4, 0, 0);
@@ -311,6 +324,8 @@ public final class ThingsTest {
         for (int what = 0; what < due.length; what++) {
             Due.is("status(" + what + ")", x.status(what), due[what]);
         }
+        x.off(0);
+        Due.is("the right one alone isn't both", x.status(3), 0);
         x.days(1);
         Due.is("today", x.status(6), 1);
         for (int r = 11; r <= 17; r++) {
