@@ -658,7 +658,7 @@ public final class DrawerOfArms {
         static final int GLUED = 6;
         static final int IN_DRAWER = 99;
         /** By kinds, the kind that each is under: one of a lower number, so that going up has an end. */
-        static final int[] UNDER = {NONE, PLAIN, PLAIN, STAINED, PLAIN, CAST, ROBBED};
+        private static final int[] UNDER = {NONE, PLAIN, PLAIN, STAINED, PLAIN, CAST, ROBBED};
 
         int kind;
         int a;
@@ -699,11 +699,18 @@ public final class DrawerOfArms {
             spot = IN_DRAWER;
         }
 
+        /** The kind next above one; NONE above the topmost, and for what is no kind. */
+        static int above(int kind) {
+            return kind > PLAIN && kind <= GLUED ? UNDER[kind] : NONE;
+        }
+
         boolean isOf(int wanted) {
-            for (int k = kind; k != NONE; k = UNDER[k]) {
+            int k = kind;
+            for (int up = 0; up <= GLUED && k != NONE; up++) {
                 if (k == wanted) {
                     return true;
                 }
+                k = above(k);
             }
             return false;
         }
@@ -1588,14 +1595,21 @@ public final class DrawerOfArms {
             if (depth > DEEPEST) {
                 return 0;
             }
-            for (int kind = from; kind != NONE; kind = Arm.UNDER[kind]) {
-                int body = BODIES[3 * kind + move];
+            int kind = from;
+            for (int up = 0; up <= Arm.GLUED && kind != NONE; up++) {
+                int body = bodyOf(kind, move);
                 if (body != 0) {
                     note(body);
-                    return outcome(body, Arm.UNDER[kind], x, depth + 1);
+                    return outcome(body, Arm.above(kind), x, depth + 1);
                 }
+                kind = Arm.above(kind);
             }
             return 0;
+        }
+
+        private static int bodyOf(int kind, int move) {
+            boolean known = within(kind, Arm.PLAIN, Arm.GLUED) && within(move, BENDS, DROPS);
+            return known ? BODIES[3 * kind + move] : 0;
         }
 
         private int outcome(int body, int above, int x, int depth) {
