@@ -17,6 +17,7 @@ public final class BoundsOfAnswersTest {
         wholeAsManyAsCanBe();
         wholeLeastUnlike();
         wholeMostUnlike();
+        wholeAsThingsStand();
         givenSides();
         givenFirstByRows();
         givenNoneBehindAll();
@@ -25,6 +26,7 @@ public final class BoundsOfAnswersTest {
         castMostSides();
         castLeastUnlike();
         castAnArmMore();
+        castAsThingsStand();
         teaMinutes();
         teaNineAtMost();
         comesBounds();
@@ -128,6 +130,18 @@ public final class BoundsOfAnswersTest {
         one.go("arm(0, 0, 0, 3, 0, 0) = 1 \n whole(0) = 2 \n whole(1) = 42 \n given(0) = 0 \n given(2) = 1");
     }
 
+    /** Asked ahead of and behind what changes the SIDES, the ARMS or both. */
+    private static void wholeAsThingsStand() {
+        Run run = with("all SIDES come to be filled", 3, "arm(4, 0, 0, 5, 5, 5)").is(DOLL, 0).go("whole(0) = 2 \n mend(0, 0, 0) = 1 \n whole(0) = 1");
+        run.go("mend(1, 0, 1) = 2 \n whole(0) = 0 \n whole(1) = 0 \n dearest(0) = 2 \n cast() = 0 \n off(1) = 1 \n whole(0) = 1 \n given(1) = 1");
+        Run dolls = with("DOLLS are fewer by the IMAGE", 2, LEFT).is(DOLL, 0).go("whole(0) = 1 \n image() = 2").is(DOLL, 1).go("whole(0) = 2 \n given(2) = 1");
+        dolls.go("restore() = 2 \n whole(0) = 1 \n given(0) = 0 \n given(2) = -15").is(DOLL, 1).go("whole(0) = 2 \n given(2) = 1 \n dye(0, 0, 4) = 5 \n whole(1) = 1");
+        dolls.go("restore() = 2 \n whole(1) = 0").is("doll(4, 5, 5, 0, 1, 0, 0)", 1).go("whole(1) = 2 \n restore() = 2 \n given(0) = 0");
+        Run arms = Run.of("ARMS are fewer by the IMAGE").is(DOLL, 0).is(LEFT, 0).is("image()", 1).is(RIGHT, 1).go("whole(0) = 2 \n restore() = 1 \n whole(0) = 1");
+        arms.is(LEFT, 1).go("whole(0) = 1 \n given(1) = -1 \n dye(0, 0, 6) = 5 \n given(0) = 1 \n restore() = 1 \n given(0) = 0");
+        arms.go("tell(0, 0, 2) = 0 \n whole(1) = 0 \n dye(0, 0, 1) = 5 \n whole(1) = 0 \n tell(0, 0, 1) = 2 \n whole(1) = 9 \n dye(0, 1, 0) = 5 \n whole(1) = 4");
+    }
+
     private static void givenSides() {
         Run run = Run.of("which ARM the i-th SIDE has (SIDES by DOLLS, left ahead of right; NONE also if it isn't empty)");
         with(run, 5, DOLL).is(RIGHT, 0).is(LEFT, 1).go("given(0) = 1 \n given(1) = 0 \n given(2) = -1 \n given(9) = -1 \n given(10) = -15");
@@ -197,6 +211,19 @@ public final class BoundsOfAnswersTest {
         run.go("doll(9, 7, 0, 0, 1, 0, 0) = 0 \n cast() = 97 \n status(0) = 8 \n armOf(8, 0) = -5 \n whole(0) = 0 \n mend(0, 0, 0) = -6 \n cast() = 97");
         Run full = with("8 ARMS that are given", 8, "arm(4, 0, 0, 5, 5, 0)");
         with(full, 5, "doll(5, 5, 0, 0, 1, 0, 0)").go("cast() = 55 \n whole(0) = 8 \n given(8) = -1");
+    }
+
+    /** Doll 0 is costly (WEAR 9 wanted), doll 1 is not; asked ahead of and behind what changes. */
+    private static void castAsThingsStand() {
+        Run run = Run.of("CAST as things stand", "doll(8, 3, 9, 0, 1, 0, 0) = 0 \n doll(2, 3, 0, 0, 1, 0, 0) = 1 \n arm(0, 0, 0, 2, 3, 0) = 0 \n cast() = 123");
+        run.go("arm(0, 0, 1, 2, 3, 0) = 1 \n cast() = 83 \n mend(0, 1, 0) = 1 \n cast() = 83 \n off(1) = -6 \n mend(1, 1, 1) = 2 \n cast() = 83");
+        run.go("off(0) = 10 \n cast() = 83 \n dye(0, 0, 9) = 3 \n cast() = 83 \n dye(0, 0, 3) = 9 \n mend(0, 1, 0) = 3 \n off(1) = 11 \n image() = 2");
+        run.go("cast() = 83 \n dye(1, 0, 4) = 3 \n cast() = 83 \n restore() = 2 \n cast() = 83");
+        Run bare = Run.of("the arm for one SIDE came on", "doll(8, 3, 9, 0, 1, 0, 0) = 0 \n doll(2, 3, 0, 0, 1, 0, 0) = 1 \n arm(6, 0, 0, 2, 3, 0) = 0");
+        bare.go("cast() = 123 \n mend(0, 1, 0) = 1 \n cast() = 123 \n off(0) = 10 \n cast() = 123 \n tell(1, 0, 2) = 0 \n cast() = 120");
+        // one arm for three SIDES can't fill two of them: the one between, which is costly, is not better than the first
+        Run shared = Run.of("an ARM fills one SIDE alone", "doll(4, 3, 0, 0, 1, 0, 0) = 0 \n doll(5, 3, 9, 0, 1, 0, 0) = 1 \n doll(6, 3, 0, 0, 1, 0, 0) = 2");
+        shared.go("arm(0, 0, 0, 5, 3, 9) = 0 \n cast() = 43 \n arm(0, 0, 1, 5, 3, 9) = 1 \n cast() = 43 \n tell(0, 0, 2) = 0 \n cast() = 40");
     }
 
     private static void teaMinutes() {

@@ -10,6 +10,7 @@ public final class BoundsOfDaysTest {
     public static void main(String[] args) {
         mendSpentAndMended();
         mendInTheDrawerFitsEmpty();
+        mendSides();
         mendTheMost();
         offWhereItWas();
         doneEachTwoAMend();
@@ -57,6 +58,12 @@ public final class BoundsOfDaysTest {
         run.go("mend(6, 0, 0) = -6 \n mend(2, 0, 0) = -6 \n mend(0, 0, 1) = -6 \n mend(0, 0, 0) = 1 \n mend(0, 1, 0) = -6 \n mend(0, 0, 0) = -6 \n mend(1, 0, 0) = -6");
         run.go("mend(2, 0, 1) = 2 \n mend(3, 1, 0) = 3 \n off(3) = 10 \n mend(5, 1, 0) = 4 \n mend(0, 0, 2) = -6 \n mend(0, 0, -1) = -6 \n mend(7, 0, 0) = -1");
         run.go("mend(0, 2, 0) = -1 \n mend(-1, 0, 0) = -1 \n mend(0, -1, 0) = -1 \n mend(7, 2, 2) = -1");
+    }
+
+    private static void mendSides() {
+        Run run = Run.of("-6 SIDE, also of a DOUBLED one").is(DOLL, 0).is("arm(4, 0, 0, 5, 5, 5)", 0);
+        run.go("mend(0, 0, 2) = -6 \n mend(0, 0, -1) = -6 \n mend(0, 0, -10) = -6 \n mend(0, 0, 10) = -6 \n armOf(0, 8) = 99 \n status(4) = 0");
+        run.go("may(0, 2) = -6 \n best(0, 2) = -16 \n on(0, 2) = -16 \n fits(0, 0, 2) = -6 \n mend(0, 0, 1) = 1 \n armOf(0, 8) = 1 \n on(0, 0) = -1");
     }
 
     private static void mendTheMost() {

@@ -12,6 +12,7 @@ public final class BoundsOfOrdersTest {
         queueMost();
         queueFirstByRows();
         queueWithoutTears();
+        queueAsThingsStand();
         feastTimes();
         feastLeastAsBits();
         feastFull();
@@ -85,6 +86,12 @@ public final class BoundsOfOrdersTest {
         Run run = with(Run.of("no TEARS: every row costs nothing"), 3, "doll(0, 0, 0, 0, 7, 0, 0)");
         run.go("queue(-1) = 0 \n queue(0) = 0 \n queue(1) = 1 \n queue(2) = 2 \n tell(2, 1, 1) = 0 \n queue(-1) = 7 \n queue(0) = 2 \n queue(1) = 0");
         run.is("queue(2)", 1);
+    }
+
+    private static void queueAsThingsStand() {
+        Run run = Run.of("DOLLS are fewer by the IMAGE", "doll(0, 0, 0, 0, 5, 3, 0) = 0 \n queue(-1) = 15 \n image() = 0 \n doll(0, 0, 0, 0, 4, 1, 0) = 1");
+        run.go("queue(-1) = 24 \n queue(0) = 0 \n queue(1) = 1 \n feast(400, 0) = 3 \n restore() = 0 \n queue(-1) = 15 \n queue(0) = 0 \n queue(1) = -5");
+        run.go("feast(400, 0) = 1 \n doll(0, 0, 0, 0, 1, 9, 0) = 1 \n queue(-1) = 27 \n queue(0) = 1 \n tell(1, 1, 0) = 9 \n queue(-1) = 15");
     }
 
     private static void feastTimes() {

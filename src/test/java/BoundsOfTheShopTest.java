@@ -254,6 +254,7 @@ public final class BoundsOfTheShopTest {
         run.go("show(0, 2) = -1 \n show(0, -2) = -1 \n holds(0) = -1 \n show(0, 1) = 1 \n holds(0) = 1 \n show(0, 0) = 1 \n holds(0) = 0");
         run.go("show(0, -1) = 0 \n holds(0) = -1 \n show(0, -1) = 0 \n row(0, 1, 2) = 1 \n holds(0) = 101 \n show(0, -1) = 0 \n holds(0) = -1");
         run.go("row(0, 3, 0) = 1 \n holds(0) = 103 \n show(0, 1) = 1 \n holds(0) = 1 \n set(0, 0, 1) = -2 \n row(0, 0, 1) = 1 \n holds(0) = 100");
+        run.go("set(0, 0, 1) = 1 \n says(0, 0) = -2 \n copy(0, 0, 0, 0, 1) = 1 \n judge(0, 0) = -1");
         for (int i = 2; i < 8; i++) {
             run.is(NEW_ARM, i);
         }
