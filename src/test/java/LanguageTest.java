@@ -27,6 +27,7 @@ public final class LanguageTest {
     public static void main(String[] args) throws Exception {
         String source = Files.readString(Path.of(args.length > 0 ? args[0] : "src/main/java/DrawerOfArms.java"));
         theFace();
+        theFaceOfTheDocument();
         theClassesInside();
         theWords(withoutCommentsAndTexts(source));
         theMethodsLength(source);
@@ -67,6 +68,25 @@ public final class LanguageTest {
         Due.is("of all", face.getDeclaredConstructors().length, 1);
         Due.holds("public and final", Modifier.isFinal(face.getModifiers()) && Modifier.isPublic(face.getModifiers()));
         Due.is("NONE", face.getField("NONE").getInt(null), -1);
+    }
+
+    /** The document's own list of the face: FACE has just what it has, and so has the class. */
+    private static void theFaceOfTheDocument() throws IOException {
+        Path document = Path.of("../shared/DOC.md");
+        if (!Files.isReadable(document)) {
+            System.out.println("no document at " + document + ": the face is not held against it");
+            return;
+        }
+        Set<String> listed = new TreeSet<>();
+        Matcher call = Pattern.compile("(?m)^ +public (int|long) (\\w+)\\((.*)\\);$").matcher(Files.readString(document));
+        while (call.find()) {
+            StringBuilder t = new StringBuilder(call.group(2)).append('(');
+            for (String one : call.group(3).split(", ")) {
+                t.append(one.startsWith("long ") ? "J" : one.startsWith("int ") ? "I" : "");
+            }
+            listed.add(t.append(')').append(call.group(1).equals("long") ? 'J' : 'I').toString());
+        }
+        Due.holds("the face that the document lists: " + listed, listed.equals(new TreeSet<>(List.of(FACE.split(" ")))));
     }
 
     private static List<Class<?>> classes() {

@@ -22,7 +22,7 @@ final class Run {
         return new Run(sentence);
     }
 
-    /** A run of lines "call = due"; blank lines part them, and what stands behind // is for the reader. */
+    /** A run of calls "call = due", by lines or parted by ;. What stands behind // is for the reader. */
     static Run of(String sentence, String lines) {
         return new Run(sentence).go(lines);
     }
@@ -75,10 +75,11 @@ final class Run {
 
     Run go(String lines) {
         for (String line : lines.split("\n")) {
-            String text = line.replaceAll("//.*", "").trim();
-            if (!text.isEmpty()) {
-                int at = text.lastIndexOf('=');
-                is(text.substring(0, at).trim(), Long.decode(text.substring(at + 1).trim()));
+            for (String text : line.replaceAll("//.*", "").split(";")) {
+                if (!text.isBlank()) {
+                    int at = text.lastIndexOf('=');
+                    is(text.substring(0, at).trim(), Long.decode(text.substring(at + 1).trim()));
+                }
             }
         }
         return this;
