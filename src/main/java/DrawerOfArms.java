@@ -25,15 +25,18 @@ public final class DrawerOfArms {
     private boolean hasImage = false;
     private final Shelf[] shelves = new Shelf[SHELVES];
     private final int[] refused = new int[ROOM + 1];
-    private final Reader reader = new Reader();
+    private final Reader reader;
     private final Parting parting = new Parting();
     private final Waiting waiting = new Waiting();
-    private final Moves moves = new Moves();
+    private final Moves moves;
 
     public DrawerOfArms() {
         for (int s = 0; s < SHELVES; s++) {
             shelves[s] = new Shelf();
         }
+        // the first shelf and arm stand for those that will be read and moved, so that no reference is ever null
+        reader = new Reader(told, shelves[0]);
+        moves = new Moves(now.arms[0]);
     }
 
     // ---- shelves ----
@@ -209,7 +212,7 @@ public final class DrawerOfArms {
             return refuse(bar);
         }
         told.takeFrom(now);
-        int items = reader.readAll(shelves[s], told);
+        int items = reader.readAll(shelves[s]);
         if (items == NONE) {
             return refuse(WRONG);
         }
@@ -1377,17 +1380,21 @@ public final class DrawerOfArms {
         private static final int[] DOLL_LEAST = {0, 0, 0, 0, 1, 0, 0};
 
         int fault = NONE;
-        private Shelf text = null;
-        private Stock stock = null;
+        private final Stock stock;
+        private Shelf text;
         private int place = 0;
         private int wordPlace = 0;
         private int numberPlace = 0;
         private final int[] numbers = new int[7];
 
-        /** How many items; NONE, and the fault, if it can't be read. */
-        int readAll(Shelf ofText, Stock over) {
-            text = ofText;
+        Reader(Stock over, Shelf firstText) {
             stock = over;
+            text = firstText;
+        }
+
+        /** How many items; NONE, and the fault, if it can't be read. */
+        int readAll(Shelf ofText) {
+            text = ofText;
             place = 0;
             fault = NONE;
             for (int items = 1; items <= Shelf.MOST; items++) {
@@ -1566,8 +1573,12 @@ public final class DrawerOfArms {
 
         int ran = 0;
         private final int[] kept = new int[KEPT];
-        private Arm arm = null;
+        private Arm arm;
         private int number = NONE;
+
+        Moves(Arm firstArm) {
+            arm = firstArm;
+        }
 
         void forget() {
             ran = 0;

@@ -124,7 +124,7 @@ public final class LanguageTest {
 
     private static void theWords(String code) {
         String[] banned = {"throw", "throws", "try", "catch", "finally", "synchronized", "assert", "import", "package", "lambda",
-            "equals", "hashCode", "toString", "volatile", "transient", "native", "float", "double", "this", "Object", "yield", "var"};
+            "equals", "hashCode", "toString", "null", "volatile", "transient", "native", "float", "double", "this", "Object", "yield", "var"};
         for (String word : banned) {
             Due.holds("no " + word, !Pattern.compile("\\b" + word + "\\b").matcher(code).find());
         }
